@@ -443,12 +443,15 @@ public final class FeatherShares {
 
     /** Arithmetic modulo 97. */
     private static final class Residues {
+        private static final int INVERSE_EXPONENT = MODULUS - 2;
+        private static final int EXPONENT_BITS = 7;
+
         /** The power with the exponent 95, since each number's 96th power is 1 (Fermat). */
         static int inverseOf(int number) {
             int base = number % MODULUS;
             int product = 1;
-            for (int exponent = MODULUS - 2; exponent > 0; exponent = exponent >> 1) {
-                if ((exponent & 1) == 1) {
+            for (int bit = 0; bit < EXPONENT_BITS; bit++) {
+                if ((INVERSE_EXPONENT >> bit & 1) == 1) {
                     product = product * base % MODULUS;
                 }
                 base = base * base % MODULUS;

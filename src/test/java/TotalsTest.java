@@ -17,6 +17,7 @@ public final class TotalsTest {
         check.due("P31 shareTotal", 0, () -> x.shareTotal());
         check.refused("P33 without birds", ARITHMETIC, () -> x.meanShares());
         x.addBird(0);
+        check.due("P33 one bird", 0.0, () -> x.meanShares());
         x.addBird(1);
         x.addBird(2);
         check.due("P33 without shares", 0.0, () -> x.meanShares());
@@ -59,6 +60,7 @@ public final class TotalsTest {
         FeatherShares x = Play.withBirds(0, 1);
         check.refused("P34 without secrets", ARITHMETIC, () -> x.rebuildableShare());
         x.split(1, 1, 1);
+        check.due("P34 one secret", 1f, () -> x.rebuildableShare());
         x.split(2, 2, 2);
         x.split(3, 2, 3);
         check.due("P34 all", 1f, () -> x.rebuildableShare());

@@ -6,6 +6,7 @@ public final class UndoTest {
 
     public static void main(String[] args) {
         undoTakesBackEachChange();
+        secretsComeBackInTheirOrder();
         undoCounts();
         onlySuccessfulChangesCount();
         changesWithoutDifferenceCount();
@@ -46,6 +47,30 @@ public final class UndoTest {
         check.due("P43 undo of lose", 4, () -> x.undo());
         check.due("P43 state before lose", start, () -> look(x));
         check.due("P43 an undone number is free again", 2, () -> x.split(9, 3, 1));
+    }
+
+    private static void secretsComeBackInTheirOrder() {
+        FeatherShares x = Play.withBirds(0, 1, 2, 3);
+        for (int need = 1; need <= 4; need++) {
+            x.split(need, need, 5);
+        }
+        String start = look(x);
+        x.save();
+        x.forget(1);
+        x.forget(3);
+        x.split(9, 1, 1);
+        x.undo();
+        x.undo();
+        check.due("P43 undo of the first forget", 5, () -> x.undo());
+        check.due("P43 the secrets", start, () -> look(x));
+        check.due("P43 a threshold", 1, () -> x.threshold(1));
+        x.forget(2);
+        x.split(9, 1, 1);
+        x.restore();
+        check.due("P45 the secrets", start, () -> look(x));
+        check.refused("P37 a program that fails", UnsupportedOperationException.class,
+                () -> Play.run(x, "forget 1;forget 4;split 9 1 1;forget 1"));
+        check.due("P37 the secrets", start, () -> look(x));
     }
 
     private static void undoCounts() {
