@@ -11,6 +11,7 @@ final class Check {
     }
 
     private final String about;
+    private String sentence = "";
     private int calls = 0;
     private int wrong = 0;
 
@@ -18,17 +19,26 @@ final class Check {
         this.about = about;
     }
 
-    void due(String text, Object want, Call call) {
+    /** The sentence of the document that the reports name from now on. */
+    void begin(String nextSentence) {
+        sentence = nextSentence + ", ";
+    }
+
+    void equal(String text, Object want, Object got) {
         calls++;
+        if (!want.equals(got)) {
+            report(text, got, want);
+        }
+    }
+
+    void due(String text, Object want, Call call) {
         Object got;
         try {
             got = call.answer();
         } catch (RuntimeException e) {
             got = "throws." + e.getClass().getSimpleName();
         }
-        if (!want.equals(got)) {
-            report(text, got, want);
-        }
+        equal(text, want, got);
     }
 
     void refused(String text, Class<? extends RuntimeException> want, Call call) {
@@ -50,7 +60,7 @@ final class Check {
 
     private void report(String text, Object got, Object want) {
         wrong++;
-        System.out.println(about + ": " + text + " answered " + got + ", due is " + want);
+        System.out.println(about + ": " + sentence + text + " answered " + got + ", due is " + want);
     }
 
     /** Ends the program with exit code 1 if an answer was wrong. */

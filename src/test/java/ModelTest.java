@@ -1,8 +1,4 @@
-import java.lang.reflect.InvocationTargetException;
-import java.lang.reflect.Method;
 import java.util.Arrays;
-import java.util.HashMap;
-import java.util.Map;
 import java.util.Random;
 
 /** Runs of 512 mixed calls on fresh objects, each answer compared with that of the other model. */
@@ -24,16 +20,12 @@ public final class ModelTest {
     private final Random random;
     private final FeatherShares program = new FeatherShares();
     private final Model model = new Model();
-    private final Map<String, Method> methods = new HashMap<>();
     private final StringBuilder calls = new StringBuilder();
     private int made = 0;
     private boolean wrong = false;
 
     private ModelTest(int seed) {
         random = new Random(seed);
-        for (Method method : FeatherShares.class.getDeclaredMethods()) {
-            methods.put(method.getName(), method);
-        }
     }
 
     public static void main(String[] args) {
@@ -130,12 +122,8 @@ public final class ModelTest {
             case "outputAt":
                 return new int[] {odd() ? oddNumber(16) : random.nextInt(36)};
             default:
-                return takesArgument(call) ? new int[] {secret()} : new int[0];
+                return Calls.parameters(call) == 1 ? new int[] {secret()} : new int[0];
         }
-    }
-
-    private boolean takesArgument(String call) {
-        return methods.get(call).getParameterCount() == 1;
     }
 
     private boolean odd() {
@@ -172,7 +160,7 @@ public final class ModelTest {
         }
         made++;
         Object want = wanted(call, arguments);
-        Object got = answered(call, arguments);
+        Object got = Calls.answer(program, call, arguments);
         calls.append(call).append(Arrays.toString(arguments)).append(" = ").append(got).append('\n');
         if (!want.equals(got)) {
             wrong = true;
@@ -185,27 +173,6 @@ public final class ModelTest {
             return model.answer(call, arguments);
         } catch (RuntimeException e) {
             return "throws." + e.getClass().getSimpleName();
-        }
-    }
-
-    private Object answered(String call, int... arguments) {
-        Method method = methods.get(call);
-        Object[] boxed = new Object[arguments.length];
-        for (int i = 0; i < arguments.length; i++) {
-            boolean sign = method.getParameterTypes()[i] == char.class;
-            if (sign) {
-                boxed[i] = (char) arguments[i];
-            } else {
-                boxed[i] = arguments[i];
-            }
-        }
-        try {
-            Object answer = method.invoke(program, boxed);
-            return method.getReturnType() == void.class ? "done" : answer;
-        } catch (InvocationTargetException e) {
-            return "throws." + e.getCause().getClass().getSimpleName();
-        } catch (IllegalAccessException e) {
-            return "no access";
         }
     }
 }
