@@ -31,12 +31,13 @@ public final class FeatherShares {
     private int storedFailure;
 
     public FeatherShares() {
-        state = new State();
+        // The changer makes what it works on, since a constructor hands out no part of the object that it makes.
+        changer = new Changer();
+        state = changer.ownState();
+        rebuilder = changer.ownRebuilder();
         saved = new State();
         beforeRun = new State();
         history = new History();
-        rebuilder = new Rebuilder();
-        changer = new Changer(state, rebuilder);
         program = new Program();
         line = new StringBuilder();
         isSaved = false;
@@ -937,12 +938,15 @@ public final class FeatherShares {
 
     /** Tests and carries out the changes, for the calls and for the commands of a program. */
     private static final class Changer {
-        private final State state;
-        private final Rebuilder rebuilder;
+        private final State state = new State();
+        private final Rebuilder rebuilder = new Rebuilder();
 
-        Changer(State state, Rebuilder rebuilder) {
-            this.state = state;
-            this.rebuilder = rebuilder;
+        State ownState() {
+            return state;
+        }
+
+        Rebuilder ownRebuilder() {
+            return rebuilder;
         }
 
         Problem problemWith(Deed deed, int first, int second, int third) {
